@@ -458,6 +458,12 @@ public final class WordTriePromiseTest {
             typed(full, "s").insert();
             return found(full, () -> full.findByCount(0));
         });
+        due(19, "a frequent word that is gone does not count", "1 a", () -> {
+            WordTrie y = with("a", "b", "b", "c", "c");
+            y.findByCount(0);
+            typed(y, "c").erase();
+            return found(y, () -> y.findByCount(1));
+        });
     }
 
     private static void neighbours() {
@@ -503,6 +509,14 @@ public final class WordTriePromiseTest {
         due(22, "the word itself among equal ones", "1 a", () -> {
             WordTrie y = with("ab", "a");
             return found(typed(y, "a"), y::complete);
+        });
+        due(22, "a more frequent word right after those with the prefix", "2 ab", () -> {
+            WordTrie y = with("ab", "b", "b");
+            return found(typed(y, "a"), y::complete);
+        });
+        due(22, "a more frequent word right before those with the prefix", "1 b", () -> {
+            WordTrie y = with("a", "a", "b");
+            return found(typed(y, "b"), y::complete);
         });
         due(22, "an empty dictionary", NO_ELEMENT, () -> new WordTrie().complete());
         throwsUnchanged(22, "complete of a longer word", NO_ELEMENT, "cats", WordTrie::complete);
@@ -559,6 +573,10 @@ public final class WordTriePromiseTest {
         WordTrie x = with("cat", "bat", "bat", "rat", "rat", "horse", "cart");
         due(27, "the word itself", "0 cat", () -> found(typed(x, "cat"), x::findNearest));
         due(27, "the most frequent, then the first", "1 bat", () -> found(typed(x, "hat"), x::findNearest));
+        due(27, "the most frequent though not the first", "1 rat", () -> {
+            WordTrie y = with("bat", "cat", "rat", "rat");
+            return found(typed(y, "hat"), y::findNearest);
+        });
         due(27, "nearer wins over more frequent", "1 cart", () -> found(typed(x, "carts"), x::findNearest));
         due(27, "of the empty word", "3 bat", () -> found(typed(x, ""), x::findNearest));
         due(27, "a question mark is a character", "1 bat", () -> found(typed(x, "?at"), x::findNearest));
